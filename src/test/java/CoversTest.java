@@ -74,6 +74,11 @@ public final class CoversTest {
         Scenes.tell(x, 0, 0, 54, 0);
         x.sell(1, 0, 733, 2);
         pricesAre(x, 7, 640, 218);
+        RainIndex y = Scenes.oneFarm();
+        y.loading(200);
+        Scenes.passTo(y, 90);
+        y.sell(0, 0, 2000, 2);
+        pricesAre(y, 0, 6000, 750);
     }
 
     private static void promise11OneForEachFarmAndSeason() {
@@ -206,10 +211,14 @@ public final class CoversTest {
         n.layer(0, 0);
         Check.same("12: nothing is left", n.settle(1), 0);
         Check.same("12: but it was due", n.cover(0, 7), 2000);
-        RainIndex a = coversOfSeason1(2000, 2000, 2000, 2000, 2000, 2000);
+        RainIndex a = coversOfSeason1(2000, 2000, 2000, 2000, 2000);
         a.pass(1);
-        Check.same("12: 5000 and 5000 at first", a.settle(1), 9996);
-        Check.same("12: the backer's by these", a.books(3), 4996);
+        Check.same("12: 5000 and 5000 at first", a.settle(1), 10000);
+        Check.same("12: the backer's by these", a.books(3), 5000);
+        RainIndex b = coversOfSeason1(2000, 2000, 2000, 2000, 2000, 1);
+        b.pass(1);
+        Check.same("12: one more than these cuts all", b.settle(1), 5 * 1999);
+        Check.same("12: the backer's then", b.books(3), 4995);
     }
 
     private static void promise12SetsOffDebts() {
@@ -239,7 +248,7 @@ public final class CoversTest {
         Check.same("12: the one ahead of it is", x.settle(18), 0);
     }
 
-    /** As coversOfSeason1, with two thirds of rates as the tenths leave, settled on day 120. */
+    /** As coversOfSeason1, each with a rate of 1000 less the tenths, settled on day 120. */
     private static RainIndex settled(int tenths, int... sums) {
         RainIndex x = coversOfSeason1(sums);
         Scenes.lateOnset(x, 0, 1, tenths);
@@ -270,31 +279,51 @@ public final class CoversTest {
         Check.same("14: the backer carries nothing", x.books(3), 0);
     }
 
-    private static void promise14ByWhichRates() {
+    /** Four covers of 1000 each, whose rates are 650, 640, 649 and 660. */
+    private static RainIndex coversOfNearRates() {
         RainIndex x = Scenes.oneStation();
-        int[] weights = {65, 64, 0};
-        for (int i = 0; i < 3; i++) {
-            if (i < 2) {
-                x.phase(1, false, 9999, 351, weights[i]);
-                x.product(Scenes.FIRST);
-            } else {
-                Scenes.slope(x, Scenes.FIRST);
-            }
-            x.farm(5, 5);
+        for (int weight = 64; weight <= 66; weight++) {
+            x.phase(1, false, 9999, 351, weight);
+            x.product(Scenes.FIRST);
         }
+        Scenes.slope(x, Scenes.FIRST);
         x.pass(40);
-        for (int i = 0; i < 3; i++) {
-            x.sell(i, i, 1000, 1);
+        int[] products = {1, 0, 3, 2};
+        for (int i = 0; i < 4; i++) {
+            x.farm(5, 5);
+            x.sell(i, products[i], 1000, 1);
         }
         Scenes.passTo(x, 120);
         Scenes.lateOnset(x, 0, 1, 351);
-        x.settle(1);
         x.loss(0, 1, 85);
-        x.complain(0, 1);
-        Check.same("14: 64 and 20 is less than 85, 65 and 20 is not", x.complain(1, 1), 10 + 1);
-        Check.same("14: a rate of 650", x.cover(0, 8), 650);
-        Check.same("14: a rate of 640", x.cover(1, 8), 650);
-        Check.same("14: a rate of 649", x.cover(2, 8), 650);
+        return x;
+    }
+
+    private static int complaintsOfThree(RainIndex x) {
+        return x.complain(0, 1) + x.complain(1, 1) + x.complain(2, 1);
+    }
+
+    private static void promise14ByWhichRates() {
+        RainIndex x = coversOfNearRates();
+        x.settle(1);
+        Check.same("14: 64 and 20 is less than 85, 65 and 20 is not", complaintsOfThree(x), 10 + 1);
+        int[] paid = {650, 650, 650, 660};
+        for (int i = 0; i < 4; i++) {
+            Check.same("14: paid to " + i, x.cover(i, 8), paid[i]);
+        }
+        RainIndex y = coversOfNearRates();
+        y.layer(0, 0);
+        y.settle(1);
+        Check.same("14: by rates, though all were cut to nothing", complaintsOfThree(y), 650 + 650);
+        int[] more = {0, 650, 650, 0};
+        for (int i = 0; i < 4; i++) {
+            Check.same("14: paid but for the cut to " + i, y.cover(i, 8), more[i]);
+        }
+        RainIndex z = settled(1000, 1, 3);
+        z.loss(0, 1, 69);
+        z.complain(0, 1);
+        Check.same("14: 49 hundredths of 1, and of 3", z.complain(1, 1), 1);
+        Check.same("14: 49 hundredths of 1", z.cover(0, 8), 0);
     }
 
     private static void promise14LessWhatWasPaid() {
@@ -444,9 +473,12 @@ public final class CoversTest {
         x.loss(1, 1, 51);
         x.complain(1, 1);
         coverIs("looked at again", x, 0, 1, 1, 800, 1, 104, 32, 300, 240, 248, 50);
+        Scenes.passTo(x, 179);
+        x.sell(0, 0, 500, 3);
+        coverIs("the second", x, 1, 0, 0, 500, 3, 650, 325, Scenes.NONE, Scenes.NONE, 0, 0);
         Check.refused("21: cover(0, 10)", Scenes.ARGUMENT, () -> x.cover(0, 10));
         Check.refused("21: cover(0, -1)", Scenes.ARGUMENT, () -> x.cover(0, -1));
-        Check.refused("21: cover(1, 10)", Scenes.INDEX, () -> x.cover(1, 10));
+        Check.refused("21: cover(2, 10)", Scenes.INDEX, () -> x.cover(2, 10));
         Check.refused("21: cover(-1, 0)", Scenes.INDEX, () -> x.cover(-1, 0));
     }
 

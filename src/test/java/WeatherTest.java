@@ -4,6 +4,7 @@ public final class WeatherTest {
         promise1NewObject();
         promise2Station();
         promise3Rain();
+        promise3UpToTheLastCall();
         promise4Pass();
         promise15Day();
         promise16OwnDataAndGaps();
@@ -71,6 +72,21 @@ public final class WeatherTest {
         Check.same("3: the first is kept", x.filled(0, 3, Scenes.FIRST), 0);
         Check.same("3: the latest is kept", x.filled(0, 3, Scenes.REVISED), 7);
         Check.same("3: what was refused is not", x.rain(0, 3, 1), 7);
+    }
+
+    /** With the station, 511 calls: the next is the last of which anything is promised. */
+    private static RainIndex toldAsOftenAsPromised() {
+        RainIndex x = Scenes.oneStation();
+        for (int i = 0; i < 510; i++) {
+            Check.same("3: telling " + i, x.rain(0, 0, i), i == 0 ? Scenes.NONE : i - 1);
+        }
+        return x;
+    }
+
+    private static void promise3UpToTheLastCall() {
+        Check.same("3: the 511th telling", toldAsOftenAsPromised().rain(0, 0, 7), 509);
+        Check.same("3: the last of 510", toldAsOftenAsPromised().filled(0, 0, Scenes.REVISED), 509);
+        Check.same("3: the first of 510", toldAsOftenAsPromised().filled(0, 0, Scenes.FIRST), 0);
     }
 
     private static void promise4Pass() {
