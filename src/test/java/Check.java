@@ -32,6 +32,22 @@ final class Check {
         }
     }
 
+    static void alike(String what, String got, String want) {
+        made++;
+        if (!got.equals(want)) {
+            fail(what + " answered " + got + ", due is " + want);
+        }
+    }
+
+    /** What a call answers, or the name of what it throws. */
+    static String answer(Call call) {
+        try {
+            return Integer.toString(call.make());
+        } catch (RuntimeException e) {
+            return "throws." + e.getClass().getSimpleName();
+        }
+    }
+
     static boolean isOwnThrow(RuntimeException e) {
         StackTraceElement[] trace = e.getStackTrace();
         return trace.length > 0 && trace[0].getClassName().startsWith("RainIndex");

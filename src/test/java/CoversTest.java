@@ -156,21 +156,8 @@ public final class CoversTest {
         Check.same("11: nothing was sold", x.sell(0, 0, 2000, 1), 0);
     }
 
-    /** So many farms at one station, each with a cover of the slope product for season 1; the day is 119. */
-    private static RainIndex coversOfSeason1(int... sums) {
-        RainIndex x = Scenes.oneStation();
-        Scenes.slope(x, Scenes.FIRST);
-        x.pass(40);
-        for (int i = 0; i < sums.length; i++) {
-            x.farm(5, 5);
-            x.sell(i, 0, sums[i], 1);
-        }
-        Scenes.passTo(x, 119);
-        return x;
-    }
-
     private static void promise12Settle() {
-        RainIndex x = coversOfSeason1(999, 1000, 1);
+        RainIndex x = Scenes.coversOfSeason1(999, 1000, 1);
         Scenes.lateOnset(x, 0, 1, 300);
         Check.refused("12: its last day", Scenes.STATE, () -> x.settle(1));
         x.pass(1);
@@ -186,7 +173,7 @@ public final class CoversTest {
     }
 
     private static void promise12CutsAllAlike() {
-        RainIndex x = coversOfSeason1(2000, 1000, 333);
+        RainIndex x = Scenes.coversOfSeason1(2000, 1000, 333);
         x.pass(1);
         x.layer(1000, 500);
         Check.same("12: all that is paid", x.settle(1), 900 + 450 + 149);
@@ -196,33 +183,33 @@ public final class CoversTest {
         }
         Check.same("12: due to the first", x.cover(0, 7), 2000);
         Check.same("12: the backer's", x.books(3), 499);
-        RainIndex y = coversOfSeason1(2000, 1000, 333);
+        RainIndex y = Scenes.coversOfSeason1(2000, 1000, 333);
         y.pass(1);
         y.layer(0, 3333);
         Check.same("12: just as much as both together", y.settle(1), 3333);
         Check.same("12: all of it is the backer's", y.books(3), 3333);
-        RainIndex z = coversOfSeason1(2000, 1000, 333);
+        RainIndex z = Scenes.coversOfSeason1(2000, 1000, 333);
         z.pass(1);
         z.layer(3333, 0);
         Check.same("12: no cut by the retention alone", z.settle(1), 3333);
         Check.same("12: nothing is the backer's", z.books(3), 0);
-        RainIndex n = coversOfSeason1(2000);
+        RainIndex n = Scenes.coversOfSeason1(2000);
         n.pass(1);
         n.layer(0, 0);
         Check.same("12: nothing is left", n.settle(1), 0);
         Check.same("12: but it was due", n.cover(0, 7), 2000);
-        RainIndex a = coversOfSeason1(2000, 2000, 2000, 2000, 2000);
+        RainIndex a = Scenes.coversOfSeason1(2000, 2000, 2000, 2000, 2000);
         a.pass(1);
         Check.same("12: 5000 and 5000 at first", a.settle(1), 10000);
         Check.same("12: the backer's by these", a.books(3), 5000);
-        RainIndex b = coversOfSeason1(2000, 2000, 2000, 2000, 2000, 1);
+        RainIndex b = Scenes.coversOfSeason1(2000, 2000, 2000, 2000, 2000, 1);
         b.pass(1);
         Check.same("12: one more than these cuts all", b.settle(1), 5 * 1999);
         Check.same("12: the backer's then", b.books(3), 4995);
     }
 
     private static void promise12SetsOffDebts() {
-        RainIndex x = coversOfSeason1(2000, 1000, 333);
+        RainIndex x = Scenes.coversOfSeason1(2000, 1000, 333);
         x.pass(1);
         x.layer(1000, 500);
         x.lend(1, 100);
@@ -250,7 +237,7 @@ public final class CoversTest {
 
     /** As coversOfSeason1, each with a rate of 1000 less the tenths, settled on day 120. */
     private static RainIndex settled(int tenths, int... sums) {
-        RainIndex x = coversOfSeason1(sums);
+        RainIndex x = Scenes.coversOfSeason1(sums);
         Scenes.lateOnset(x, 0, 1, tenths);
         x.pass(1);
         x.settle(1);
@@ -327,7 +314,7 @@ public final class CoversTest {
     }
 
     private static void promise14LessWhatWasPaid() {
-        RainIndex x = coversOfSeason1(1000, 500);
+        RainIndex x = Scenes.coversOfSeason1(1000, 500);
         Scenes.lateOnset(x, 0, 1, 500);
         x.pass(1);
         x.layer(100, 50);
@@ -396,7 +383,7 @@ public final class CoversTest {
     }
 
     private static void promise14WhoseLosses() {
-        RainIndex x = coversOfSeason1(100, 100);
+        RainIndex x = Scenes.coversOfSeason1(100, 100);
         x.farm(5, 5);
         Scenes.lateOnset(x, 0, 1, 1000);
         x.pass(1);
@@ -405,7 +392,7 @@ public final class CoversTest {
         x.loss(0, 0, 100);
         x.complain(0, 1);
         Check.same("14: no loss of that season of one with a cover", x.complain(1, 1), 0);
-        RainIndex y = coversOfSeason1(100, 100, 100);
+        RainIndex y = Scenes.coversOfSeason1(100, 100, 100);
         y.farm(5, 5);
         Scenes.lateOnset(y, 0, 1, 1000);
         y.pass(1);
@@ -425,7 +412,7 @@ public final class CoversTest {
         Check.same("14: 20 days behind", x.complain(0, 1), 0);
         x.pass(1);
         Check.refused("14: 21 days behind", Scenes.STATE, () -> x.complain(1, 1));
-        RainIndex y = coversOfSeason1(100);
+        RainIndex y = Scenes.coversOfSeason1(100);
         Scenes.passTo(y, 300);
         y.settle(1);
         y.loss(0, 1, 50);
@@ -434,7 +421,7 @@ public final class CoversTest {
     }
 
     private static void promise14WrongInputs() {
-        RainIndex x = coversOfSeason1(100, 100);
+        RainIndex x = Scenes.coversOfSeason1(100, 100);
         x.farm(5, 5);
         x.pass(1);
         Check.refused("14: not settled", Scenes.STATE, () -> x.complain(0, 1));
@@ -518,7 +505,7 @@ public final class CoversTest {
         for (int what = 0; what < 5; what++) {
             Check.same("24: books(" + what + ")", x.books(what), first[what]);
         }
-        RainIndex y = coversOfSeason1(2000, 400);
+        RainIndex y = Scenes.coversOfSeason1(2000, 400);
         y.pass(1);
         y.layer(500, 1000);
         y.settle(1);
